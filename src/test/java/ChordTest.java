@@ -23,17 +23,8 @@ public final class ChordTest {
         Checks.end();
     }
 
-    /** Pots that all sound, with these pitches. */
-    private static TeapotChoir chord(int... pitches) {
-        TeapotChoir x = new TeapotChoir();
-        for (int pitch : pitches) {
-            x.addPot(0, pitch, 20);
-        }
-        return x;
-    }
-
     private static void promise16Beats() {
-        TeapotChoir x = chord();
+        TeapotChoir x = Choirs.chord();
         Checks.due("16 at first", x.beats(), 0);
         x.sing(1);
         x.sing(60);
@@ -43,7 +34,7 @@ public final class ChordTest {
     }
 
     private static void promise17Sounding() {
-        TeapotChoir x = chord(0, 1, 2, 3);
+        TeapotChoir x = Choirs.chord(0, 1, 2, 3);
         Checks.due("17 all", x.sounding(), 4);
         x.turnCosy(0);
         Checks.due("17 a cosy less", x.sounding(), 3);
@@ -56,7 +47,7 @@ public final class ChordTest {
     }
 
     private static void promise18Interval() {
-        TeapotChoir x = chord(0, 35, 12, 12);
+        TeapotChoir x = Choirs.chord(0, 35, 12, 12);
         x.turnCosy(1);
         Checks.due("18 upwards", x.interval(0, 1), 35);
         Checks.due("18 downwards", x.interval(1, 0), 35);
@@ -71,9 +62,9 @@ public final class ChordTest {
 
     private static void promise19AreInAccord() {
         String steps = "x..xxx.xxx..";
-        TeapotChoir x = chord(0, 35);
+        TeapotChoir x = Choirs.chord(0, 35);
         for (int pitch = 0; pitch < 36; pitch++) {
-            TeapotChoir y = chord(0, pitch, 35);
+            TeapotChoir y = Choirs.chord(0, pitch, 35);
             boolean want = steps.charAt(pitch % 12) == 'x';
             Checks.due("19 an interval of " + pitch, y.areInAccord(0, 1), want);
             Checks.due("19 the other way round", y.areInAccord(1, 0), want);
@@ -85,7 +76,7 @@ public final class ChordTest {
         x.turnCosy(0);
         x.mend(1);
         Checks.due("19 whether they sound or not", x.areInAccord(0, 1), true);
-        TeapotChoir z = chord(0, 0, 0, 0);
+        TeapotChoir z = Choirs.chord(0, 0, 0, 0);
         for (int pot : NOT_THERE) {
             Checks.dueRefused("19 areInAccord(" + pot + ", 0)", NO_POT, z, () -> z.areInAccord(pot, 0));
             Checks.dueRefused("19 areInAccord(0, " + pot + ")", NO_POT, z, () -> z.areInAccord(0, pot));
@@ -93,12 +84,12 @@ public final class ChordTest {
     }
 
     private static void promise20Harmony() {
-        Checks.due("20 without pots", chord().harmony(), 0);
-        Checks.due("20 one pot", chord(0).harmony(), 0);
-        Checks.due("20 an accord", chord(0, 4).harmony(), 1);
-        Checks.due("20 a clash", chord(0, 1).harmony(), -1);
-        Checks.due("20 ten of one pitch", chord(5, 5, 5, 5, 5, 5, 5, 5, 5, 5).harmony(), 45);
-        TeapotChoir x = chord(0, 4, 8, 1);
+        Checks.due("20 without pots", Choirs.chord().harmony(), 0);
+        Checks.due("20 one pot", Choirs.chord(0).harmony(), 0);
+        Checks.due("20 an accord", Choirs.chord(0, 4).harmony(), 1);
+        Checks.due("20 a clash", Choirs.chord(0, 1).harmony(), -1);
+        Checks.due("20 ten of one pitch", Choirs.chord(5, 5, 5, 5, 5, 5, 5, 5, 5, 5).harmony(), 45);
+        TeapotChoir x = Choirs.chord(0, 4, 8, 1);
         Checks.due("20 five accords, a clash", x.harmony(), 4);
         x.turnCosy(3);
         Checks.due("20 three accords", x.harmony(), 3);
@@ -108,11 +99,11 @@ public final class ChordTest {
     }
 
     private static void promise21Clashes() {
-        Checks.due("21 without pots", chord().clashes(), 0);
-        Checks.due("21 one pot", chord(0).clashes(), 0);
-        Checks.due("21 an accord", chord(0, 4).clashes(), 0);
-        Checks.due("21 all clash", chord(0, 1, 2, 12 + 1).clashes(), 5);
-        TeapotChoir x = chord(0, 1, 2);
+        Checks.due("21 without pots", Choirs.chord().clashes(), 0);
+        Checks.due("21 one pot", Choirs.chord(0).clashes(), 0);
+        Checks.due("21 an accord", Choirs.chord(0, 4).clashes(), 0);
+        Checks.due("21 all clash", Choirs.chord(0, 1, 2, 12 + 1).clashes(), 5);
+        TeapotChoir x = Choirs.chord(0, 1, 2);
         Checks.due("21 three", x.clashes(), 3);
         x.turnCosy(1);
         Checks.due("21 one", x.clashes(), 1);
@@ -121,7 +112,7 @@ public final class ChordTest {
     }
 
     private static void promise22ClashesOf() {
-        TeapotChoir x = chord(0, 1, 2, 4);
+        TeapotChoir x = Choirs.chord(0, 1, 2, 4);
         int[] want = {2, 2, 3, 1};
         for (int pot = 0; pot < 4; pot++) {
             Checks.due("22 clashesOf(" + pot + ")", x.clashesOf(pot), want[pot]);
@@ -138,9 +129,11 @@ public final class ChordTest {
     }
 
     private static void promise23Harshest() {
-        Checks.due("23 without pots", chord().harshest(), -1);
-        Checks.due("23 no clashes", chord(0, 4, 8).harshest(), -1);
-        TeapotChoir x = chord(0, 5, 1, 12);
+        Checks.due("23 without pots", Choirs.chord().harshest(), -1);
+        Checks.due("23 no clashes", Choirs.chord(0, 4, 8).harshest(), -1);
+        Checks.due("23 a single clash", Choirs.chord(0, 5, 1).harshest(), 0);
+        Checks.due("23 a single clash of the last ones", Choirs.chord(5, 0, 1).harshest(), 1);
+        TeapotChoir x = Choirs.chord(0, 5, 1, 12);
         Checks.due("23 the most", x.harshest(), 2);
         x.tune(1, 1);
         Checks.due("23 of several the smallest number", x.harshest(), 0);
@@ -151,8 +144,9 @@ public final class ChordTest {
     }
 
     private static void promise24Lowest() {
-        Checks.due("24 without pots", chord().lowest(), -1);
-        TeapotChoir x = chord(35, 3, 3, 0);
+        Checks.due("24 without pots", Choirs.chord().lowest(), -1);
+        Checks.due("24 the first", Choirs.chord(3, 35, 4).lowest(), 0);
+        TeapotChoir x = Choirs.chord(35, 3, 3, 0);
         Checks.due("24 the lowest", x.lowest(), 3);
         x.turnCosy(3);
         Checks.due("24 of two the smaller number", x.lowest(), 1);
@@ -165,11 +159,11 @@ public final class ChordTest {
     }
 
     private static void promise25IsClear() {
-        Checks.due("25 without pots", chord().isClear(), false);
-        Checks.due("25 two pots", chord(0, 4).isClear(), false);
-        Checks.due("25 three pots", chord(0, 4, 8).isClear(), true);
-        Checks.due("25 four pots", chord(0, 4, 8, 20).isClear(), true);
-        TeapotChoir x = chord(0, 4, 8, 1);
+        Checks.due("25 without pots", Choirs.chord().isClear(), false);
+        Checks.due("25 two pots", Choirs.chord(0, 4).isClear(), false);
+        Checks.due("25 three pots", Choirs.chord(0, 4, 8).isClear(), true);
+        Checks.due("25 four pots", Choirs.chord(0, 4, 8, 20).isClear(), true);
+        TeapotChoir x = Choirs.chord(0, 4, 8, 1);
         Checks.due("25 a clash", x.isClear(), false);
         x.turnCosy(3);
         Checks.due("25 it is muted", x.isClear(), true);
@@ -178,7 +172,7 @@ public final class ChordTest {
     }
 
     private static void promise26Cadences() {
-        TeapotChoir x = chord(0, 4, 8);
+        TeapotChoir x = Choirs.chord(0, 4, 8);
         x.sing(1);
         Checks.due("26 none in the beat 0", x.cadences(), 0);
         x.addPot(0, 1, 2);
@@ -188,7 +182,7 @@ public final class ChordTest {
         Checks.due("26 as the clash has no tea left", x.cadences(), 1);
         x.sing(1);
         Checks.due("26 only once", x.cadences(), 1);
-        TeapotChoir y = chord(0, 4, 1);
+        TeapotChoir y = Choirs.chord(0, 4, 1);
         y.sing(1);
         y.mend(2);
         y.sing(1);
@@ -201,7 +195,7 @@ public final class ChordTest {
 
     /** What is done by hand between two beats counts for the chord of the next one alone. */
     private static void promise26CadencesByHand() {
-        TeapotChoir x = chord(0, 4, 8, 1);
+        TeapotChoir x = Choirs.chord(0, 4, 8, 1);
         x.turnCosy(3);
         x.sing(1);
         x.turnCosy(3);
@@ -224,16 +218,7 @@ public final class ChordTest {
 
     /** The clash is told as the beat began: the pitch that falls in it is the next chord's. */
     private static void promise26CadencesByCracks() {
-        TeapotChoir x = chord(30, 0, 0);
-        x.turnCosy(1);
-        x.turnCosy(2);
-        for (int beat = 0; beat < 60 && !(x.crackOf(0) == 4 && x.beats() % 4 == 0); beat++) {
-            x.fill(0);
-            x.sing(1);
-        }
-        x.turnCosy(1);
-        x.turnCosy(2);
-        x.fill(0);
+        TeapotChoir x = Choirs.cracking();
         Checks.due("26 a clash of 30", x.clashes(), 2);
         Checks.due("26 none in the beat with the clash", x.sing(1), 0);
         Checks.due("26 an accord of 29", x.pitchOf(0), 29);

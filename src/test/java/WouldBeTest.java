@@ -20,22 +20,14 @@ public final class WouldBeTest {
         promise33MeanPitch();
         promise34Digest();
         promise34DigestByHand();
-        promise34DigestWrapsAround();
+        promise34DigestOfCadences();
+        promise34DigestOfTenPots();
         questionsChangeNothing();
         Checks.end();
     }
 
-    /** Pots that all sound, with these pitches. */
-    private static TeapotChoir chord(int... pitches) {
-        TeapotChoir x = new TeapotChoir();
-        for (int pitch : pitches) {
-            x.addPot(0, pitch, 20);
-        }
-        return x;
-    }
-
     private static int bestTuningOfLast(int... pitches) {
-        return chord(pitches).bestTuning(pitches.length - 1);
+        return Choirs.chord(pitches).bestTuning(pitches.length - 1);
     }
 
     private static void promise27BestTuning() {
@@ -48,12 +40,12 @@ public final class WouldBeTest {
         Checks.due("27 the nearest to 0", bestTuningOfLast(0, 14), 1);
         Checks.due("27 of three others", bestTuningOfLast(2, 6, 8, 12), -1);
         Checks.due("27 the best there is still clashes", bestTuningOfLast(0, 1, 2, 3), 2);
-        TeapotChoir x = chord(0, 1);
+        TeapotChoir x = Choirs.chord(0, 1);
         Checks.due("27 of another pot", x.bestTuning(0), 1);
         for (int pot : new int[] {-1, 2, 10, Integer.MIN_VALUE, Integer.MAX_VALUE}) {
             Checks.dueRefused("27 bestTuning(" + pot + ")", NO_POT, x, () -> x.bestTuning(pot));
         }
-        Checks.dueThrow("27 without pots", NO_POT, () -> chord().bestTuning(0));
+        Checks.dueThrow("27 without pots", NO_POT, () -> Choirs.chord().bestTuning(0));
     }
 
     private static void promise27BestTuningAtTheEnds() {
@@ -66,7 +58,7 @@ public final class WouldBeTest {
     }
 
     private static void promise27BestTuningOfSilentPots() {
-        TeapotChoir x = chord(0, 1, 2);
+        TeapotChoir x = Choirs.chord(0, 1, 2);
         x.turnCosy(0);
         Checks.due("27 with a cosy on", x.bestTuning(0), 0);
         Checks.due("27 silent ones don't count", x.bestTuning(1), 1);
@@ -76,12 +68,12 @@ public final class WouldBeTest {
     }
 
     private static void promise28BestToMute() {
-        Checks.due("28 without pots", chord().bestToMute(), -1);
-        Checks.due("28 alone", chord(7).bestToMute(), 0);
-        Checks.due("28 all in accord", chord(0, 4, 8).bestToMute(), 0);
-        Checks.due("28 the one that clashes", chord(0, 5, 1, 12).bestToMute(), 2);
-        Checks.due("28 of two the smaller number", chord(0, 4, 1, 3).bestToMute(), 2);
-        TeapotChoir x = chord(0, 1, 2, 3);
+        Checks.due("28 without pots", Choirs.chord().bestToMute(), -1);
+        Checks.due("28 alone", Choirs.chord(7).bestToMute(), 0);
+        Checks.due("28 all in accord", Choirs.chord(0, 4, 8).bestToMute(), 0);
+        Checks.due("28 the one that clashes", Choirs.chord(0, 5, 1, 12).bestToMute(), 2);
+        Checks.due("28 of two the smaller number", Choirs.chord(0, 4, 1, 3).bestToMute(), 2);
+        TeapotChoir x = Choirs.chord(0, 1, 2, 3);
         x.turnCosy(1);
         Checks.due("28 of those that sound", x.bestToMute(), 2);
         x.turnCosy(2);
@@ -92,7 +84,7 @@ public final class WouldBeTest {
     }
 
     private static void promise29HarmonyIn() {
-        TeapotChoir x = chord(0, 4, 8);
+        TeapotChoir x = Choirs.chord(0, 4, 8);
         x.addPot(0, 1, 2);
         Checks.due("29 behind 1", x.harmonyIn(1), 4);
         Checks.due("29 behind 2", x.harmonyIn(2), 3);
@@ -110,23 +102,8 @@ public final class WouldBeTest {
         }
     }
 
-    /** A pot of the pitch 30 with a crack of 4, full, as a beat comes that 4 divides; the others sound too. */
-    private static TeapotChoir cracking() {
-        TeapotChoir x = chord(30, 0, 0);
-        x.turnCosy(1);
-        x.turnCosy(2);
-        for (int beat = 0; beat < 60 && !(x.crackOf(0) == 4 && x.beats() % 4 == 0); beat++) {
-            x.fill(0);
-            x.sing(1);
-        }
-        x.turnCosy(1);
-        x.turnCosy(2);
-        x.fill(0);
-        return x;
-    }
-
     private static void promise29HarmonyInWithCracks() {
-        TeapotChoir x = cracking();
+        TeapotChoir x = Choirs.cracking();
         Checks.due("29 two clashes now", x.harmony(), -1);
         Checks.due("29 the pitch falls to 29", x.harmonyIn(1), 3);
         Checks.due("29 to 28", x.harmonyIn(2), 3);
@@ -137,8 +114,8 @@ public final class WouldBeTest {
     }
 
     private static void promise30BeatsUntilSilence() {
-        Checks.due("30 without pots", chord().beatsUntilSilence(), 0);
-        TeapotChoir x = chord(0);
+        Checks.due("30 without pots", Choirs.chord().beatsUntilSilence(), 0);
+        TeapotChoir x = Choirs.chord(0);
         Checks.due("30 20 at most", x.beatsUntilSilence(), 20);
         x.sing(7);
         Checks.due("30 behind 7", x.beatsUntilSilence(), 13);
@@ -148,7 +125,7 @@ public final class WouldBeTest {
         Checks.due("30 one beat", x.beatsUntilSilence(), 1);
         x.turnCosy(0);
         Checks.due("30 the last one", x.beatsUntilSilence(), 13);
-        TeapotChoir y = chord(30);
+        TeapotChoir y = Choirs.chord(30);
         Checks.due("30 cracks take tea", y.beatsUntilSilence(), 15);
         Checks.due("30 no beat went by", y.beats(), 0);
         y.sing(15);
@@ -156,10 +133,10 @@ public final class WouldBeTest {
     }
 
     private static void promise31BeatsUntilCadence() {
-        Checks.due("31 without pots", chord().beatsUntilCadence(), -1);
-        Checks.due("31 clear, without a clash ahead", chord(0, 4, 8).beatsUntilCadence(), -1);
-        Checks.due("31 a clash for ever", chord(0, 4, 8, 1).beatsUntilCadence(), -1);
-        TeapotChoir x = chord(0, 4, 8);
+        Checks.due("31 without pots", Choirs.chord().beatsUntilCadence(), -1);
+        Checks.due("31 clear, without a clash ahead", Choirs.chord(0, 4, 8).beatsUntilCadence(), -1);
+        Checks.due("31 a clash for ever", Choirs.chord(0, 4, 8, 1).beatsUntilCadence(), -1);
+        TeapotChoir x = Choirs.chord(0, 4, 8);
         x.addPot(0, 1, 1);
         Checks.due("31 in the one behind the next", x.beatsUntilCadence(), 2);
         x.sing(1);
@@ -169,7 +146,7 @@ public final class WouldBeTest {
         x.sing(1);
         Checks.due("31 one behind", x.cadences(), 1);
         Checks.due("31 no more", x.beatsUntilCadence(), -1);
-        TeapotChoir y = chord(0, 4, 8);
+        TeapotChoir y = Choirs.chord(0, 4, 8);
         y.addPot(0, 1, 19);
         Checks.due("31 in the last one that sounds", y.beatsUntilCadence(), 20);
         y.sing(1);
@@ -180,21 +157,21 @@ public final class WouldBeTest {
     }
 
     private static void promise31BeatsUntilCadenceWithCracks() {
-        TeapotChoir x = cracking();
+        TeapotChoir x = Choirs.cracking();
         Checks.due("31 the pitch finds its way", x.beatsUntilCadence(), 2);
         Checks.due("31 the pitch now", x.pitchOf(0), 30);
     }
 
     private static void promise32GreatestAccord() {
-        Checks.due("32 without pots", chord().greatestAccord(), 0);
-        Checks.due("32 alone", chord(7).greatestAccord(), 1);
-        Checks.due("32 a clash", chord(0, 1).greatestAccord(), 1);
-        Checks.due("32 an accord", chord(0, 4).greatestAccord(), 2);
-        Checks.due("32 no two of three", chord(0, 5, 10).greatestAccord(), 2);
-        Checks.due("32 not the first ones", chord(1, 2, 0, 4, 8).greatestAccord(), 3);
-        Checks.due("32 ten", chord(0, 12, 24, 0, 4, 16, 28, 8, 20, 32).greatestAccord(), 10);
-        Checks.due("32 five of ten", chord(0, 1, 12, 13, 24, 25, 0, 1, 12, 13).greatestAccord(), 5);
-        TeapotChoir x = chord(0, 4, 8, 2);
+        Checks.due("32 without pots", Choirs.chord().greatestAccord(), 0);
+        Checks.due("32 alone", Choirs.chord(7).greatestAccord(), 1);
+        Checks.due("32 a clash", Choirs.chord(0, 1).greatestAccord(), 1);
+        Checks.due("32 an accord", Choirs.chord(0, 4).greatestAccord(), 2);
+        Checks.due("32 no two of three", Choirs.chord(0, 5, 10).greatestAccord(), 2);
+        Checks.due("32 not the first ones", Choirs.chord(1, 2, 0, 4, 8).greatestAccord(), 3);
+        Checks.due("32 ten", Choirs.chord(0, 12, 24, 0, 4, 16, 28, 8, 20, 32).greatestAccord(), 10);
+        Checks.due("32 five of ten", Choirs.chord(0, 1, 12, 13, 24, 25, 0, 1, 12, 13).greatestAccord(), 5);
+        TeapotChoir x = Choirs.chord(0, 4, 8, 2);
         Checks.due("32 three of four", x.greatestAccord(), 3);
         x.turnCosy(0);
         Checks.due("32 a cosy on", x.greatestAccord(), 2);
@@ -206,11 +183,11 @@ public final class WouldBeTest {
     }
 
     private static void promise33MeanPitch() {
-        Checks.due("33 without pots", chord().meanPitch(), 0.0);
-        Checks.due("33 alone", chord(35).meanPitch(), 35.0);
-        Checks.due("33 a half", chord(0, 1).meanPitch(), 0.5);
-        Checks.due("33 a third", chord(0, 0, 1).meanPitch(), 1.0 / 3.0);
-        TeapotChoir x = chord(10, 20, 33);
+        Checks.due("33 without pots", Choirs.chord().meanPitch(), 0.0);
+        Checks.due("33 alone", Choirs.chord(35).meanPitch(), 35.0);
+        Checks.due("33 a half", Choirs.chord(0, 1).meanPitch(), 0.5);
+        Checks.due("33 a third", Choirs.chord(0, 0, 1).meanPitch(), 1.0 / 3.0);
+        TeapotChoir x = Choirs.chord(10, 20, 33);
         x.turnCosy(2);
         Checks.due("33 of those that sound", x.meanPitch(), 15.0);
         x.mend(0);
@@ -249,8 +226,17 @@ public final class WouldBeTest {
         Checks.due("34 a new object", new TeapotChoir().digest(), want);
     }
 
-    private static void promise34DigestWrapsAround() {
-        TeapotChoir x = chord(0, 1, 2, 3, 4, 5, 6, 7, 8, 9);
+    private static void promise34DigestOfCadences() {
+        TeapotChoir x = Choirs.chord(0, 4, 8);
+        x.addPot(0, 1, 2);
+        x.sing(3);
+        Checks.due("34 it is clear", x.isClear(), true);
+        Checks.due("34 a cadence", x.cadences(), 1);
+        Checks.due("34 clear behind a cadence", x.digest(), digestOf(x));
+    }
+
+    private static void promise34DigestOfTenPots() {
+        TeapotChoir x = Choirs.chord(0, 1, 2, 3, 4, 5, 6, 7, 8, 9);
         Checks.due("34 ten pots", x.digest(), digestOf(x));
     }
 
@@ -279,8 +265,8 @@ public final class WouldBeTest {
     }
 
     private static void questionsChangeNothing() {
-        TeapotChoir x = cracking();
-        TeapotChoir y = cracking();
+        TeapotChoir x = Choirs.cracking();
+        TeapotChoir y = Choirs.cracking();
         x.bestTuning(0);
         x.bestToMute();
         x.harmonyIn(60);
