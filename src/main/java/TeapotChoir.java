@@ -310,11 +310,13 @@ public final class TeapotChoir {
         }
 
         void becomeLike(Choir other) {
-            System.arraycopy(other.part, 0, part, 0, MOST_POTS);
-            System.arraycopy(other.pitch, 0, pitch, 0, MOST_POTS);
-            System.arraycopy(other.tea, 0, tea, 0, MOST_POTS);
-            System.arraycopy(other.crack, 0, crack, 0, MOST_POTS);
-            System.arraycopy(other.cosy, 0, cosy, 0, MOST_POTS);
+            for (int pot = 0; pot < MOST_POTS; pot++) {
+                part[pot] = other.part[pot];
+                pitch[pot] = other.pitch[pot];
+                tea[pot] = other.tea[pot];
+                crack[pot] = other.crack[pot];
+                cosy[pot] = other.cosy[pot];
+            }
             count = other.count;
             beat = other.beat;
             cadenceCount = other.cadenceCount;

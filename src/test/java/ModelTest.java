@@ -8,7 +8,7 @@ import java.util.List;
  */
 public final class ModelTest {
     private static final int RUNS = 300;
-    private static final int CALLS = 512;
+    private static final int CALLS = 480;
 
     private long seed;
 
