@@ -299,6 +299,11 @@ public final class PotsEdgesTest {
             Checks.due("6 a full one gets", x.fill(1), 0);
             Checks.due("6 the other one's tea", x.teaOf(0), 3);
         }
+        TeapotChoir mute = Choirs.worn(35, 7, 9, 1);
+        mute.turnCosy(0);
+        Checks.due("6 with a cosy on", mute.fill(0), 13);
+        Checks.due("6 the cosy stays", mute.sounds(0), false);
+        Checks.due("6 the crack stays", mute.crackOf(0), 9);
     }
 
     /** 7: "IndexOutOfBoundsException if there is no such teapot". */
@@ -309,10 +314,10 @@ public final class PotsEdgesTest {
     /** 7: "its crack is 0"; "Returns its crack before." */
     private static void mendTellsTheCrackBefore() {
         for (int crack = 0; crack <= 9; crack++) {
-            TeapotChoir x = Choirs.worn(35, 20, crack, 1);
+            TeapotChoir x = Choirs.worn(20, 20, crack, 1);
             Checks.due("7 its crack before", x.mend(0), crack);
             Checks.due("7 its crack", x.crackOf(0), 0);
-            Checks.due("7 its pitch", x.pitchOf(0), 35);
+            Checks.due("7 its pitch", x.pitchOf(0), 20);
             Checks.due("7 mended again", x.mend(0), 0);
         }
     }
@@ -327,6 +332,11 @@ public final class PotsEdgesTest {
             Checks.due("7 its tea", x.teaOf(0), 0);
             Checks.due("7 the other one's tea", x.teaOf(1), 7);
         }
+        TeapotChoir mute = Choirs.worn(35, 7, 9, 1);
+        mute.turnCosy(0);
+        Checks.due("7 with a cosy on", mute.mend(0), 9);
+        mute.fill(0);
+        Checks.due("7 the cosy stays", mute.sounds(0), false);
     }
 
     /** 8: "IllegalArgumentException if beats is not 1 to 60". */

@@ -1,5 +1,7 @@
 /** The sentences of the section "Terms" that name an edge: a method each, with the sentence above it. */
 public final class TermsEdgesTest {
+    private static final String[] HANDS = {"turnCosy", "tune", "mend", "pour", "fill", "addPot"};
+
     private TermsEdgesTest() {
     }
 
@@ -71,6 +73,7 @@ public final class TermsEdgesTest {
         noCadenceInTheBeat0();
         cadenceNeedsTheVeryBeatAhead();
         handsCountForTheNextChord();
+        handsCountForTheNextChordAlone();
         clashIsToldAsTheBeatBegan();
     }
 
@@ -488,35 +491,70 @@ public final class TermsEdgesTest {
         Checks.due("the clash is two beats ago", y.sing(1), 0);
     }
 
-    /** "What is done by hand between two beats counts for the chord of the next one alone". */
+    /** "What is done by hand between two beats counts for the chord of the next one": out of a clash. */
     private static void handsCountForTheNextChord() {
-        String[] hands = {"turnCosy", "tune", "mend", "pour"};
-        for (int hand = 0; hand < hands.length; hand++) {
-            TeapotChoir x = Choirs.chord(0, 4, 8, 1);
+        for (int hand = 0; hand < HANDS.length; hand++) {
+            TeapotChoir x = Choirs.chord(0, 4, 1);
+            x.addPot(0, 8, hand < 4 ? 20 : 0);
             x.addPot(0, 0, 0);
             x.sing(1);
             leaveTheClash(x, hand);
-            Checks.due(hands[hand] + " makes the next chord clear", x.isClear(), true);
-            Checks.due(hands[hand] + " makes a cadence", x.sing(1), 1);
+            Checks.due(HANDS[hand] + " makes the next chord clear", x.isClear(), true);
+            Checks.due(HANDS[hand] + " makes a cadence", x.sing(1), 1);
         }
-        TeapotChoir y = Choirs.chord(0, 4, 8, 1);
-        y.mend(3);
-        y.sing(1);
-        y.fill(3);
-        y.tune(0, 2);
-        y.tune(0, -2);
-        y.addPot(0, 1, 20);
-        y.mend(3);
-        y.mend(4);
-        Checks.due("clashes between two beats are none", y.sing(1), 0);
     }
 
+    /** The pot 2 clashes; the pot 3 is empty for the last two, so that it takes more than to be rid of the pot 2. */
     private static void leaveTheClash(TeapotChoir x, int hand) {
         switch (hand) {
+            case 0: x.turnCosy(2); break;
+            case 1: x.tune(2, -1); break;
+            case 2: x.mend(2); break;
+            case 3: x.pour(2, 4, 20); break;
+            case 4: x.mend(2); x.fill(3); break;
+            default: x.mend(2); x.addPot(0, 8, 20);
+        }
+    }
+
+    /** ".. of the next one alone": a clash that is gone as the next beat begins is none. */
+    private static void handsCountForTheNextChordAlone() {
+        for (int hand = 0; hand < HANDS.length; hand++) {
+            TeapotChoir x = Choirs.chord(0, 4, 8);
+            x.addPot(0, 1, hand == 0 ? 20 : 0);
+            x.addPot(0, 1, 20);
+            x.turnCosy(4);
+            if (hand == 0) {
+                x.turnCosy(3);
+            }
+            Checks.due("a clear beat ahead of " + HANDS[hand], x.sing(1), 0);
+            comeIntoTheClash(x, hand);
+            Checks.due(HANDS[hand] + " makes a clash", x.clashes() > 0, true);
+            x.turnCosy(0);
+            x.turnCosy(0);
+            leaveThatClash(x, hand);
+            Checks.due("that is over", x.isClear(), true);
+            Checks.due("no beat began with it", x.sing(1), 0);
+        }
+    }
+
+    /** The pot 3 clashes as soon as it sounds; the pot 4 has tea for it, and a cosy on. */
+    private static void comeIntoTheClash(TeapotChoir x, int hand) {
+        switch (hand) {
             case 0: x.turnCosy(3); break;
-            case 1: x.tune(3, -1); break;
-            case 2: x.mend(3); break;
-            default: x.pour(3, 4, 20);
+            case 1: x.tune(0, 2); break;
+            case 3: x.pour(4, 3, 5); break;
+            case 5: x.addPot(0, 1, 20); break;
+            default: x.fill(3);
+        }
+    }
+
+    private static void leaveThatClash(TeapotChoir x, int hand) {
+        switch (hand) {
+            case 0: x.turnCosy(3); break;
+            case 1: x.tune(0, -2); break;
+            case 3: x.pour(3, 4, 20); break;
+            case 5: x.mend(5); break;
+            default: x.mend(3);
         }
     }
 

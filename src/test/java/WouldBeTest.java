@@ -205,7 +205,10 @@ public final class WouldBeTest {
         x.addPot(0, 1, 3);
         x.addPot(3, 2, 0);
         for (int beat = 0; beat < 22; beat++) {
-            Checks.due("34 behind " + beat, x.digest(), digestOf(x));
+            // Not behind every beat: an object is good for 512 calls, and digestOf takes 48 of them.
+            if (beat % 3 == 0) {
+                Checks.due("34 behind " + beat, x.digest(), digestOf(x));
+            }
             if (beat % 5 == 3) {
                 x.turnCosy(beat % 4);
             }
